@@ -13,6 +13,7 @@ public final class SubfieldTwoTest {
         boundOfCodesAndIndicators();
         boundCountsNoMarks();
         boundWithPut();
+        boundOfThePresentRecordAlone();
         CHECK.end();
     }
 
@@ -111,12 +112,16 @@ public final class SubfieldTwoTest {
 
     /** An object with so many bytes in the fields: 11 control fields that share theirs, and the rest. */
     private static ExchangeRecords control(int held) {
+        return Sample.present(controlRecord(held));
+    }
+
+    private static byte[] controlRecord(int held) {
         int shares = 11;
         int each = held / shares;
         int rest = held - each * shares;
         String row = Sample.row("001", each + 1, 0);
         String rows = row.repeat(shares) + Sample.row("002", rest + 1, each - rest);
-        return Sample.present(Sample.framed(rows, "x".repeat(each) + "^"));
+        return Sample.framed(rows, "x".repeat(each) + "^");
     }
 
     private static int sizeOf(ExchangeRecords x, int field) {
@@ -195,5 +200,21 @@ public final class SubfieldTwoTest {
         y.put(10, 0x4142);
         y.subfield2(1, 0, 'x');
         CHECK.due("another field that was put", sizeOf(y, 1), 109);
+    }
+
+    /** An earlier record's fields and subfields count no more. */
+    private static void boundOfThePresentRecordAlone() {
+        ExchangeRecords x = Sample.holding(controlRecord(1300), Sample.record());
+        x.read();
+        x.read();
+        x.put(1, 0);
+        x.subfield2(1, 0, 'x');
+        CHECK.due("behind a long one", sizeOf(x, 1), 1);
+        ExchangeRecords y = Sample.holding(Sample.shared(12, "245", "12$a$a$a"), controlRecord(1200));
+        y.read();
+        y.read();
+        int size = sizeOf(y, 1);
+        y.subfield2(1, 0, 'x');
+        CHECK.due("behind one of many subfields", sizeOf(y, 1), size);
     }
 }

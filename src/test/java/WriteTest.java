@@ -7,7 +7,9 @@ public final class WriteTest {
         fromNothing();
         inOrder();
         sharedBytes();
+        sixtyFields();
         indicators();
+        earlierIndicators();
         nothingIsWritten();
         writtenIsRead();
         CHECK.end();
@@ -60,6 +62,29 @@ public final class WriteTest {
         String[] fields = new String[20];
         java.util.Arrays.fill(fields, "245:12$a" + "x".repeat(230));
         CHECK.due("written", Sample.written(x), Sample.text(Sample.record(fields)));
+    }
+
+    private static void sixtyFields() {
+        ExchangeRecords x = Sample.blank();
+        String[] fields = new String[60];
+        for (int i = 0; i < 60; i++) {
+            x.put(i, 'p' << 8 | 'q');
+            x.subfield2(i + 1, 'a', 'b');
+            fields[i] = String.format("%03d:", i) + (i < 10 ? "b" : "pq$ab");
+        }
+        String due = Sample.text(Sample.record(fields));
+        CHECK.due("size", x.write(), due.length());
+        CHECK.due("sixty fields", Sample.written(x).substring(24), due.substring(24));
+    }
+
+    /** A field that is no more, of a record before, forbids nothing. */
+    private static void earlierIndicators() {
+        ExchangeRecords x = Sample.holding(Sample.record());
+        x.leader(5, 'a');
+        x.put(100, 30 << 8 | 30);
+        CHECK.due("forbidden", x.write(), -1);
+        CHECK.due("the next record", x.read(), 1);
+        CHECK.due("allowed", x.write(), 26);
     }
 
     private static void indicators() {
