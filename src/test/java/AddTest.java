@@ -1,62 +1,110 @@
-/** Promise 2. */
+/** Promise 2: add. */
 public final class AddTest {
+    private static final Check CHECK = new Check("AddTest");
+    private static final byte[] SMALL = Sample.record();
+
     public static void main(String[] args) {
-        Check check = new Check("AddTest");
-        bytesComeInOrder(check);
-        addsGoOnAfterReading(check);
-        anyByteIsKept(check);
-        theInputIsBounded(check);
-        check.end();
+        eachByteComesBehindTheOthers();
+        behindWhatWasRead();
+        behindWhatWasWrong();
+        anyByteIsKept();
+        nothingButTheInputChanges();
+        theInputHas1500();
+        whatIsLostLeavesTheOthers();
+        readingMakesNoRoom();
+        CHECK.end();
     }
 
-    private static void bytesComeInOrder(Check check) {
-        ExchangeRecords x = new ExchangeRecords();
+    /** "A byte comes behind the input's": all in the order in which they came, none twice. */
+    private static void eachByteComesBehindTheOthers() {
         for (int i = 0; i < Sample.BOOK.length; i++) {
-            check.due("read before byte " + i, x.read(), 0);
-            x.add(Sample.BOOK[i]);
+            CHECK.due("read of " + i + " bytes", Run.holding(Sample.firstOf(Sample.BOOK, i)).read(), 0);
         }
-        check.due("read of the whole", x.read(), 1);
-        check.due("written", Sample.written(x), Sample.text(Sample.BOOK));
+        CHECK.due("read of the whole", Run.holding(Sample.BOOK).read(), 1);
+        CHECK.due("the bytes", Run.present(Sample.BOOK).written(), Sample.text(Sample.BOOK));
     }
 
-    private static void addsGoOnAfterReading(Check check) {
-        ExchangeRecords x = Sample.present(Sample.BOOK);
-        Sample.addAll(x, Sample.record("005:z"));
-        check.due("length of the first", x.length(), 3);
-        check.due("read of the second", x.read(), 1);
-        check.due("length of the second", x.length(), 1);
-        check.due("its byte", x.subfield(1, 0, 0, 0), 'z');
+    private static void behindWhatWasRead() {
+        Run x = Run.present(Sample.BOOK).adding(Sample.record("005:z"));
+        CHECK.due("length of the first", x.length(), 3);
+        CHECK.due("read of the second", x.read(), 1);
+        CHECK.due("length of the second", x.reading().length(), 1);
+        CHECK.due("its byte", x.reading().answer(o -> o.subfield(1, 0, 0, 0)), 'z');
+        Run apart = Run.holding(Sample.firstOf(Sample.BOOK, 40)).reading().adding(Sample.behindFirst(Sample.BOOK, 40));
+        CHECK.due("a record that came in two parts", apart.read(), 1);
     }
 
-    private static void anyByteIsKept(Check check) {
-        StringBuilder all = new StringBuilder("003:");
-        for (int b = 0; b < 256; b++) {
-            if (b < 29 || b > 31) {
-                all.append("$^!".indexOf(b) >= 0 ? 'x' : (char) b);
+    private static void behindWhatWasWrong() {
+        Run x = Run.holding(Sample.with(Sample.BOOK, 0, 'x')).reading().adding(Sample.record("005:z"));
+        CHECK.due("read", x.read(), 1);
+        CHECK.due("its byte", x.reading().answer(o -> o.subfield(1, 0, 0, 0)), 'z');
+    }
+
+    /** A byte of -128 .. 127 is one of 0 .. 255. */
+    private static void anyByteIsKept() {
+        byte[] record = Sample.record("003:?");
+        for (int b = -128; b <= 127; b++) {
+            int whole = b & 255;
+            if (whole >= 29 && whole <= 31) {
+                continue;
             }
-        }
-        ExchangeRecords x = Sample.present(all.toString());
-        for (int k = 4; k < all.length(); k++) {
-            check.due("byte " + k, x.subfield(1, 0, 0, k - 4), all.charAt(k));
+            Run x = Run.present(Sample.with(record, 37, b));
+            CHECK.due("byte " + b, x.answer(o -> o.subfield(1, 0, 0, 0)), whole);
+            CHECK.due("byte " + b + " written", x.then(o -> o.write()).answer(o -> o.octet(37)), b);
         }
     }
 
-    /** More than 512 calls, where nothing is promised: this program keeps the bound there too. */
-    private static void theInputIsBounded(Check check) {
-        byte[] filler = Sample.record("001:" + "f".repeat(1500 - 26 - 12 - 1 - 26));
-        check.due("the filler", filler.length, 1474);
-        byte[] small = Sample.record();
-        check.due("the small one", small.length, 26);
-        ExchangeRecords full = Sample.holding(filler, small, small);
-        check.due("read of the filler", full.read(), 1);
-        check.due("read of what just fits", full.read(), 1);
-        check.due("read of what was lost", full.read(), 0);
-        Sample.addAll(full, small);
-        check.due("read of what was lost later", full.read(), 0);
+    /** The present record, the directory and what was written stay: only the input grows. */
+    private static void nothingButTheInputChanges() {
+        Run before = Run.present(Sample.BOOK).then(x -> x.write()).then(x -> x.put(100, 0x4142));
+        Run after = before.adding(Sample.bytes("x"));
+        CHECK.due("length", after.length(), 4);
+        CHECK.due("directory", after.directoryPicture(), before.directoryPicture());
+        CHECK.due("latest", after.octets(), before.octets());
+        CHECK.due("written", after.written(), before.written());
+    }
 
-        byte[] longer = Sample.record("001:" + "f".repeat(1500 - 26 - 12 - 1 - 25));
-        ExchangeRecords x = Sample.holding(longer, small);
-        check.due("read of the longer filler", x.read(), 1);
-        check.due("read of what lacks its last byte", x.read(), 0);
+    private static byte[] filler(int size) {
+        return Sample.record("001:" + "f".repeat(size - 26 - 12 - 1));
+    }
+
+    /** "if it has 1,500 it is lost": the 1,499th and the 1,500th byte come in, the 1,501st does not. */
+    private static void theInputHas1500() {
+        for (int total = 1498; total <= 1502; total++) {
+            byte[] first = filler(total - SMALL.length);
+            CHECK.due("the first of " + total, first.length + SMALL.length, total);
+            Run x = Run.beyond().adding(first, SMALL);
+            CHECK.due("first of " + total + " bytes", x.read(), 1);
+            CHECK.due("last of " + total + " bytes", x.reading().read(), total <= 1500 ? 1 : 0);
+        }
+        CHECK.due("one of 1,499", Run.beyond().adding(filler(1499)).read(), 1);
+        CHECK.due("one of 1,500", Run.beyond().adding(filler(1500)).read(), 1);
+        CHECK.due("one of 1,501", Run.beyond().adding(filler(1501)).read(), 0);
+    }
+
+    /** "it is lost": the other bytes and the place stay as they are, however often it comes. */
+    private static void whatIsLostLeavesTheOthers() {
+        Run full = Run.beyond().adding(filler(1474), SMALL);
+        Run more = full.adding(Sample.bytes("x"));
+        CHECK.due("the first", more.read(), 1);
+        CHECK.due("the second", more.reading().read(), 1);
+        CHECK.due("nothing else", more.reading().reading().read(), 0);
+        Run muchMore = full.adding(Sample.bytes("x".repeat(1600)));
+        CHECK.due("the first still", muchMore.read(), 1);
+        CHECK.due("the second still", muchMore.reading().read(), 1);
+        CHECK.due("nothing else still", muchMore.reading().reading().read(), 0);
+        CHECK.due("its bytes", muchMore.reading().reading().written(), Sample.text(SMALL));
+    }
+
+    /** The input has 1,500 bytes whether they were read, were wrong, or not. */
+    private static void readingMakesNoRoom() {
+        Run full = Run.beyond().adding(filler(1474), SMALL).reading().reading();
+        CHECK.due("what comes later is lost", full.adding(SMALL).read(), 0);
+        Run almost = Run.beyond().adding(filler(1473)).reading().adding(SMALL);
+        CHECK.due("what just fits", almost.read(), 1);
+        Run wrong = Run.beyond().adding(Sample.bytes("x".repeat(1474))).reading();
+        CHECK.due("what fits behind a wrong one", wrong.adding(SMALL).read(), 1);
+        Run wrongAndFull = Run.beyond().adding(Sample.bytes("x".repeat(1475))).reading();
+        CHECK.due("what does not fit behind a wrong one", wrongAndFull.adding(SMALL).read(), 0);
     }
 }

@@ -24,15 +24,30 @@ final class Check {
         count(got.equals(want), what + " answered " + got + ", due is " + want);
     }
 
-    /** The very class of the document, not one above or below it. */
-    void dueThrow(String what, Call call) {
-        String got;
+    /**
+     * The answer, or the name of what is thrown: the very class, not one above or below it. What the
+     * machine throws by itself is told apart by its text: the program must throw on its own.
+     */
+    static String told(Call call) {
         try {
-            got = Long.toString(call.answer());
+            return Long.toString(call.answer());
         } catch (RuntimeException e) {
-            got = e.getClass().getName();
+            boolean machine = String.valueOf(e.getMessage()).startsWith("Index ");
+            return e.getClass().getName() + (machine ? " of the machine" : "");
         }
-        due(what, got, "java.lang.ArrayIndexOutOfBoundsException");
+    }
+
+    void dueThrow(String what, Call call) {
+        due(what, told(call), "java.lang.ArrayIndexOutOfBoundsException");
+    }
+
+    void dueThrow(String what, Run run, Run.Question question) {
+        dueThrow(what, () -> run.answer(question));
+    }
+
+    /** The second run has calls more than the first: they changed nothing that later calls show. */
+    void same(String what, Run before, Run after) {
+        due(what + " changes nothing: the picture", after.picture(), before.picture());
     }
 
     private void count(boolean right, String message) {

@@ -4,15 +4,26 @@ import java.nio.charset.StandardCharsets;
 final class Sample {
     static final String LEADER = "00000nam a2200000 a 4500";
 
-    /** Three fields of 26 + 36 + 25 bytes: what most tests ask. */
+    /**
+     * What most tests ask: 87 bytes, the directory's rows at 24, 36 and 48, BASE 61, the fields at 61,
+     * 65 and 80.
+     */
     static final byte[] BOOK = record("001:id7", "245:10$aTitle$bsub", "245:  $aX");
 
     private Sample() {
     }
 
     static byte[] bytes(String text) {
-        String marked = text.replace('$', (char) 31).replace('^', (char) 30).replace('!', (char) 29);
-        return marked.getBytes(StandardCharsets.ISO_8859_1);
+        String bare = text.replace('$', (char) 31).replace('^', (char) 30).replace('!', (char) 29);
+        return bare.getBytes(StandardCharsets.ISO_8859_1);
+    }
+
+    static String text(byte[] bytes) {
+        return marked(new String(bytes, StandardCharsets.ISO_8859_1));
+    }
+
+    static String marked(String text) {
+        return text.replace((char) 31, '$').replace((char) 30, '^').replace((char) 29, '!');
     }
 
     /** A record of fields, each told as "tag:text", the text without its end. */
@@ -27,7 +38,7 @@ final class Sample {
         return framed(rows.toString(), data.toString());
     }
 
-    /** A record in which each of the tags has the same bytes. */
+    /** A record in which each of the fields has the same bytes. */
     static byte[] shared(int count, String tag, String text) {
         return framed(row(tag, text.length() + 1, 0).repeat(count), text + "^");
     }
@@ -59,64 +70,11 @@ final class Sample {
         return changed;
     }
 
-    static ExchangeRecords holding(byte[]... inputs) {
-        ExchangeRecords x = new ExchangeRecords();
-        for (byte[] input : inputs) {
-            addAll(x, input);
-        }
-        return x;
+    static byte[] firstOf(byte[] bytes, int count) {
+        return java.util.Arrays.copyOf(bytes, count);
     }
 
-    static void addAll(ExchangeRecords x, byte[] input) {
-        for (byte b : input) {
-            x.add(b);
-        }
-    }
-
-    /** An object whose present record is this one. */
-    static ExchangeRecords present(byte[] record) {
-        ExchangeRecords x = holding(record);
-        if (x.read() != 1) {
-            throw new IllegalStateException("the sample is wrong");
-        }
-        return x;
-    }
-
-    static ExchangeRecords present(String... fields) {
-        return present(record(fields));
-    }
-
-    /** An object with a new record without fields. */
-    static ExchangeRecords blank() {
-        ExchangeRecords x = new ExchangeRecords();
-        x.leader(5, ' ');
-        return x;
-    }
-
-    /** What write() writes, with the marks as in a field's text; "none" if it answers NONE. */
-    static String written(ExchangeRecords x) {
-        int total = x.write();
-        if (total == ExchangeRecords.NONE) {
-            return "none";
-        }
-        byte[] out = new byte[total];
-        for (int i = 0; i < total; i++) {
-            out[i] = x.octet(i);
-        }
-        return text(out);
-    }
-
-    static String text(byte[] bytes) {
-        String text = new String(bytes, StandardCharsets.ISO_8859_1);
-        return text.replace((char) 31, '$').replace((char) 30, '^').replace((char) 29, '!');
-    }
-
-    /** The bytes of the i-th subfield with a code; of a control field, its bytes. */
-    static String subfield(ExchangeRecords x, int field, int i, int code) {
-        StringBuilder text = new StringBuilder();
-        for (int k = 0; k < 2000 && x.subfield(field, i, code, k) != ExchangeRecords.NONE; k++) {
-            text.append((char) x.subfield(field, i, code, k));
-        }
-        return text.toString();
+    static byte[] behindFirst(byte[] bytes, int count) {
+        return java.util.Arrays.copyOfRange(bytes, count, bytes.length);
     }
 }
