@@ -94,6 +94,9 @@ public final class AddTest {
         CHECK.due("the second still", muchMore.reading().read(), 1);
         CHECK.due("nothing else still", muchMore.reading().reading().read(), 0);
         CHECK.due("its bytes", muchMore.reading().reading().written(), Sample.text(SMALL));
+        CHECK.same("a lost byte", full, full.adding(Sample.bytes("0")));
+        Run partly = full.reading().then(x -> x.put(100, 0x4142));
+        CHECK.same("a byte lost behind a record", partly, partly.adding(Sample.bytes("0")));
     }
 
     /** The input has 1,500 bytes whether they were read, were wrong, or not. */
